@@ -1,4 +1,4 @@
-/** Squares of four whole numbers on a shelf, told alike or not; see README.md for the words used here. */
+/** Squares of four whole numbers on a shelf, told alike or not; README.md tells how it is built. */
 public final class MatrixKin {
     public static final int NONE = -1, UNKNOWN = -1000000001, OUTSIDE = -1000000002, NOT = -1000000003, FULL = -1000000004;
 
@@ -13,7 +13,7 @@ public final class MatrixKin {
 
     // Two runs more make the trace at least 2.6 times as great, and it is 2000000 at most: 30 runs are never passed.
     private static final int RUNS_ROOM = 40;
-    // Each step of a loop with this bound at least halves a number that starts below 2 to the 41.
+    // The loops with this bound halve a number up to 1000000 at least every second step: 40 steps are never passed.
     private static final int HALVINGS = 64;
 
     private static final int KIND_ONE = 0;
@@ -31,12 +31,11 @@ public final class MatrixKin {
     private final Past past = new Past();
     private final Text text = new Text();
     private final Book book = new Book();
-    private final Judge judge = new Judge();
+    private final Judge judge = new Judge(shelf);
     private final Image[] images = new Image[IMAGE_COUNT];
     private final Square first = new Square();
     private final Square second = new Square();
     private final Square result = new Square();
-    private int faultPlace = NONE;
     private int seedNow = 0;
 
     public MatrixKin() {
@@ -63,7 +62,6 @@ public final class MatrixKin {
             return FULL;
         }
         int faultNumber = text.spell(result);
-        faultPlace = text.faultPlace();
         text.clear();
         if (faultNumber != NO_FAULT) {
             return -10 - faultNumber;
@@ -72,7 +70,7 @@ public final class MatrixKin {
     }
 
     public int fault() {
-        return faultPlace;
+        return text.faultPlace();
     }
 
     public int put(int a, int b, int c, int d) {
@@ -96,20 +94,36 @@ public final class MatrixKin {
             case 1:
                 return text.length();
             case 2:
-                return judge.countFamilies(shelf);
+                judge.lookAround();
+                return judge.countFamilies();
             case 3:
-                return judge.greatestFamily(shelf);
+                judge.lookAround();
+                return judge.greatestFamily();
             case 4:
-                return judge.countTwins(shelf);
+                judge.lookAround();
+                return judge.countTwins();
             case 5:
                 return book.length();
             case 6:
-                return book.firstWrong(shelf, judge);
+                judge.lookAround();
+                return firstWrong();
             case 7:
                 return past.length();
             default:
                 return OUTSIDE;
         }
+    }
+
+    private int firstWrong() {
+        for (int i = 0; i < book.length(); i++) {
+            int one = book.one(i);
+            int other = book.other(i);
+            boolean isThere = shelf.has(one) && shelf.has(other);
+            if (!isThere || judge.areAlike(one, other) != book.saidAlike(i)) {
+                return i;
+            }
+        }
+        return NONE;
     }
 
     public int number(int s, int what) {
@@ -126,47 +140,42 @@ public final class MatrixKin {
         if (!shelf.has(s)) {
             return UNKNOWN;
         }
+        judge.lookAround();
+        Kin kin = judge.kinOf(s);
         switch (what) {
             case 0:
-                return judge.kinOf(shelf, s).kind();
+                return kin.kind();
             case 1:
-                return judge.kinOf(shelf, s).trace() + 2 * BOUND;
+                return kin.trace() + 2 * BOUND;
             case 2:
-                return judge.kinOf(shelf, s).sign() + 1;
+                return kin.sign() + 1;
             case 3:
-                return judge.kinOf(shelf, s).order();
+                return kin.order();
             case 4:
-                return byOf(judge.kinOf(shelf, s));
+                return kin.kind() == KIND_SHIFT ? kin.mark() + 3 * BOUND : 0;
             case 5:
-                return judge.kinOf(shelf, s).wheel().count();
+                return kin.wheel().count();
             case 6:
-                return judge.kinOf(shelf, s).wheel().times();
+                return kin.wheel().times();
             case 7:
-                return judge.isTwin(shelf, s) ? 1 : 0;
+                return judge.isTwin(s) ? 1 : 0;
             case 8:
-                return judge.familyOf(shelf, s);
+                return judge.familyOf(s);
             case 9:
-                return judge.isLikeMirrored(shelf, s) ? 1 : 0;
+                return judge.isLikeMirrored(s) ? 1 : 0;
             case 10:
-                return judge.kinOf(shelf, s).wheel().letters();
+                return kin.wheel().letters();
             default:
                 return OUTSIDE;
         }
-    }
-
-    private static int byOf(Kin kin) {
-        return kin.kind() == KIND_SHIFT ? kin.shiftBy() + 3 * BOUND : 0;
     }
 
     public int run(int s, int k) {
         if (!shelf.has(s)) {
             return UNKNOWN;
         }
-        Wheel wheel = judge.kinOf(shelf, s).wheel();
-        if (k < 0 || k >= wheel.count()) {
-            return NONE;
-        }
-        return wheel.runAt(k);
+        judge.lookAround();
+        return judge.kinOf(s).wheel().runAt(k);
     }
 
     // ---- deeds
@@ -291,13 +300,14 @@ public final class MatrixKin {
         if (!shelf.has(s) || !shelf.has(u)) {
             return UNKNOWN;
         }
+        judge.lookAround();
         switch (what) {
             case 0:
-                return judge.areAlike(shelf, s, u) ? 1 : 0;
+                return judge.areAlike(s, u) ? 1 : 0;
             case 1:
-                return judge.goTogether(shelf, s, u) ? 1 : 0;
+                return judge.goTogether(s, u) ? 1 : 0;
             case 2:
-                return judge.begins(shelf, s, u);
+                return judge.begins(s, u);
             default:
                 return OUTSIDE;
         }
@@ -374,7 +384,10 @@ public final class MatrixKin {
         }
 
         void copyFrom(Square other) {
-            set(other.a, other.b, other.c, other.d);
+            a = other.a;
+            b = other.b;
+            c = other.c;
+            d = other.d;
         }
 
         void setProduct(Square left, Square right) {
@@ -424,17 +437,54 @@ public final class MatrixKin {
 
         /** Carries it over by the k-th power of R. */
         void carryByR(long k) {
-            set(a + k * c, b + k * (d - a) - k * k * c, c, d - k * c);
+            b += k * (d - a) - k * k * c;
+            a += k * c;
+            d -= k * c;
         }
 
         /** Carries it over by the k-th power of L. */
         void carryByL(long k) {
-            set(a - k * b, b, c + k * (a - d) - k * k * b, d + k * b);
+            c += k * (a - d) - k * k * b;
+            a -= k * b;
+            d += k * b;
         }
 
         /** Carries it over by S. */
         void carryByS() {
-            set(d, -c, -b, a);
+            long oldA = a;
+            long oldB = b;
+            a = d;
+            b = -c;
+            c = -oldB;
+            d = oldA;
+        }
+
+        /** Carries a stretch with a trace above 0 over until it is a product of R and L: no number below 0. */
+        void carryToProduct() {
+            // As long as b and c differ in sign, c becomes less than half of itself in each step.
+            for (int step = 0; step < HALVINGS && !hasLikeSides(); step++) {
+                carryByR(stepsToEvenOut());
+                if (!hasLikeSides()) {
+                    carryByS();
+                }
+            }
+            if (b < 0) {
+                carryByS();
+            }
+        }
+
+        /** The power of R that brings a and d as near to one another as can be. */
+        private long stepsToEvenOut() {
+            long wide = 2 * Math.abs(c);
+            if (wide == 0) {
+                return 0;
+            }
+            long steps = Math.floorDiv(d - a + wide / 2, wide);
+            return c > 0 ? steps : -steps;
+        }
+
+        private boolean hasLikeSides() {
+            return b > 0 && c > 0 || b < 0 && c < 0;
         }
 
         long trace() {
@@ -482,31 +532,35 @@ public final class MatrixKin {
             return whole.a >= whole.c && whole.b >= whole.d;
         }
 
-        private long firstRun() {
-            return beginsWithR()
-                ? Math.min(fits(whole.a, whole.c), fits(whole.b, whole.d))
-                : Math.min(fits(whole.c, whole.a), fits(whole.d, whole.b));
-        }
-
-        private static long fits(long total, long part) {
-            return part > 0 ? total / part : Long.MAX_VALUE;
+        /** How often the lower row can be taken from the upper one, or the upper from the lower: none below 0 left. */
+        private long firstRun(boolean isR) {
+            long left = isR ? whole.a : whole.c;
+            long right = isR ? whole.b : whole.d;
+            long takenLeft = isR ? whole.c : whole.a;
+            long takenRight = isR ? whole.d : whole.b;
+            long most = takenLeft > 0 ? left / takenLeft : Long.MAX_VALUE;
+            return takenRight > 0 ? Math.min(most, right / takenRight) : most;
         }
 
         /** Leaves out the first run: its letters. */
         long dropFirstRun() {
-            long length = firstRun();
-            if (beginsWithR()) {
-                whole.set(whole.a - length * whole.c, whole.b - length * whole.d, whole.c, whole.d);
+            boolean isR = beginsWithR();
+            long length = firstRun(isR);
+            if (isR) {
+                whole.a -= length * whole.c;
+                whole.b -= length * whole.d;
             } else {
-                whole.set(whole.a, whole.b, whole.c - length * whole.a, whole.d - length * whole.b);
+                whole.c -= length * whole.a;
+                whole.d -= length * whole.b;
             }
             return length;
         }
 
         /** Brings the first run to the end: its letters. */
         long turnFirstRun() {
-            long length = firstRun();
-            if (beginsWithR()) {
+            boolean isR = beginsWithR();
+            long length = firstRun(isR);
+            if (isR) {
                 whole.carryByR(-length);
             } else {
                 whole.carryByL(-length);
@@ -521,9 +575,9 @@ public final class MatrixKin {
             }
             // A turned R leaves c, and d grows by c; a turned L leaves b, and a grows by b; the rest follows.
             if (beginsWithR()) {
-                return other.c == whole.c ? stepsUpTo(firstRun(), other.d - whole.d, whole.c) : NONE;
+                return other.c == whole.c ? stepsUpTo(firstRun(true), other.d - whole.d, whole.c) : NONE;
             }
-            return other.b == whole.b ? stepsUpTo(firstRun(), other.a - whole.a, whole.b) : NONE;
+            return other.b == whole.b ? stepsUpTo(firstRun(false), other.a - whole.a, whole.b) : NONE;
         }
 
         private static long stepsUpTo(long most, long way, long step) {
@@ -552,50 +606,19 @@ public final class MatrixKin {
             if (seenElsewhere.trace() < 0) {
                 seenElsewhere.changeSigns();
             }
-            makeProduct(seenElsewhere);
+            seenElsewhere.carryToProduct();
             word.copyFrom(seenElsewhere);
-            beginWithWholeRunOfR();
-            readRuns();
-            findLeastStart();
-        }
-
-        /** Carries a stretch over until no number of it is below 0: then it is a product of R and L. */
-        private static void makeProduct(Square stretch) {
-            // While b and c have not the same sign, c becomes at most a quarter of itself in each step.
-            for (int step = 0; step < HALVINGS && !hasLikeSides(stretch); step++) {
-                long wide = 2 * Math.abs(stretch.c);
-                if (wide == 0) {
-                    return;
-                }
-                long k = Math.floorDiv(stretch.d - stretch.a + wide / 2, wide);
-                stretch.carryByR(stretch.c > 0 ? k : -k);
-                if (!hasLikeSides(stretch)) {
-                    stretch.carryByS();
-                }
-            }
-            if (stretch.b < 0) {
-                stretch.carryByS();
-            }
-        }
-
-        private static boolean hasLikeSides(Square stretch) {
-            return stretch.b > 0 && stretch.c > 0 || stretch.b < 0 && stretch.c < 0;
-        }
-
-        private void beginWithWholeRunOfR() {
-            // A run that was turned is whole at the end, so the next one is whole at the beginning.
+            // A run that was turned is whole at the end, so that the next one is whole at the beginning.
             word.turnFirstRun();
             if (!word.beginsWithR()) {
                 word.turnFirstRun();
             }
-        }
-
-        private void readRuns() {
             clear();
             while (count < RUNS_ROOM && !word.isEmpty()) {
                 runs[count] = (int) word.dropFirstRun();
                 count++;
             }
+            findLeastStart();
         }
 
         private void findLeastStart() {
@@ -750,8 +773,9 @@ public final class MatrixKin {
             return NONE;
         }
 
-        int shiftBy() {
-            return kind == KIND_SHIFT ? mark : 0;
+        /** The sign of c of a round one, BY of a shift, 0 of others. */
+        int mark() {
+            return mark;
         }
 
         Wheel wheel() {
@@ -759,8 +783,9 @@ public final class MatrixKin {
         }
     }
 
-    /** Answers what is asked of the squares of a shelf; the kin it has found are kept for the next question. */
+    /** Answers what is asked of the squares of the shelf, once it has looked around. */
     private static final class Judge {
+        private final Shelf shelf;
         private final Kin[] kins = new Kin[SHELF_ROOM];
         private final Kin strangeKin = new Kin();
         private final Square one = new Square();
@@ -769,71 +794,78 @@ public final class MatrixKin {
         private final Square otherByOne = new Square();
         private final Word word = new Word();
 
-        Judge() {
+        Judge(Shelf itsShelf) {
+            shelf = itsShelf;
             for (int s = 0; s < SHELF_ROOM; s++) {
                 kins[s] = new Kin();
             }
         }
 
-        Kin kinOf(Shelf shelf, int s) {
-            shelf.load(s, one);
-            kins[s].lookAt(one);
+        /** Brings the kin of all squares up to what the shelf holds now. */
+        void lookAround() {
+            for (int s = 0; s < shelf.size(); s++) {
+                shelf.load(s, one);
+                kins[s].lookAt(one);
+            }
+        }
+
+        Kin kinOf(int s) {
             return kins[s];
         }
 
-        boolean areAlike(Shelf shelf, int s, int u) {
-            return kinOf(shelf, s).isLike(kinOf(shelf, u));
+        boolean areAlike(int s, int u) {
+            return kins[s].isLike(kins[u]);
         }
 
-        boolean isTwin(Shelf shelf, int s) {
+        boolean isTwin(int s) {
             shelf.load(s, other);
             other.turnBack();
             strangeKin.lookAt(other);
-            return kinOf(shelf, s).isLike(strangeKin);
+            return kins[s].isLike(strangeKin);
         }
 
-        boolean isLikeMirrored(Shelf shelf, int s) {
+        boolean isLikeMirrored(int s) {
             shelf.load(s, other);
             other.mirror();
             strangeKin.lookAt(other);
-            return kinOf(shelf, s).isLike(strangeKin);
+            return kins[s].isLike(strangeKin);
         }
 
-        int countTwins(Shelf shelf) {
+        int countTwins() {
             int twins = 0;
             for (int s = 0; s < shelf.size(); s++) {
-                if (isTwin(shelf, s)) {
+                if (isTwin(s)) {
                     twins++;
                 }
             }
             return twins;
         }
 
-        int familyOf(Shelf shelf, int s) {
+        int familyOf(int s) {
             int family = 0;
             for (int u = 0; u < shelf.size(); u++) {
-                if (areAlike(shelf, s, u)) {
+                if (areAlike(s, u)) {
                     family |= 1 << u;
                 }
             }
             return family;
         }
 
-        int countFamilies(Shelf shelf) {
+        int countFamilies() {
             int families = 0;
             for (int s = 0; s < shelf.size(); s++) {
                 // Each family is counted at its least square.
-                if (Integer.numberOfTrailingZeros(familyOf(shelf, s)) == s) {
+                if (Integer.numberOfTrailingZeros(familyOf(s)) == s) {
                     families++;
                 }
             }
             return families;
         }
 
-        int greatestFamily(Shelf shelf) {
+        int greatestFamily() {
             int greatest = 0;
             for (int s = 0; s < shelf.size(); s++) {
-                int family = familyOf(shelf, s);
+                int family = familyOf(s);
                 if (Integer.bitCount(family) > Integer.bitCount(greatest)) {
                     greatest = family;
                 }
@@ -841,7 +873,7 @@ public final class MatrixKin {
             return greatest;
         }
 
-        boolean goTogether(Shelf shelf, int s, int u) {
+        boolean goTogether(int s, int u) {
             shelf.load(s, one);
             shelf.load(u, other);
             oneByOther.setProduct(one, other);
@@ -849,12 +881,13 @@ public final class MatrixKin {
             return oneByOther.isSameAs(otherByOne);
         }
 
-        int begins(Shelf shelf, int s, int u) {
-            if (!isProductOfBoth(shelf, s) || !isProductOfBoth(shelf, u)) {
-                return NONE;
-            }
+        int begins(int s, int u) {
             shelf.load(s, one);
             shelf.load(u, other);
+            boolean areStretches = kins[s].kind() == KIND_STRETCH && kins[u].kind() == KIND_STRETCH;
+            if (!areStretches || !one.hasNoneBelowZero() || !other.hasNoneBelowZero()) {
+                return NONE;
+            }
             word.copyFrom(one);
             long turned = 0;
             // Once round is as many runs as there are, and one more if the first was cut in two.
@@ -866,11 +899,6 @@ public final class MatrixKin {
                 turned += word.turnFirstRun();
             }
             return NONE;
-        }
-
-        private boolean isProductOfBoth(Shelf shelf, int s) {
-            shelf.load(s, other);
-            return other.hasNoneBelowZero() && kinOf(shelf, s).kind() == KIND_STRETCH;
         }
     }
 
@@ -1069,16 +1097,16 @@ public final class MatrixKin {
             length = 0;
         }
 
-        int firstWrong(Shelf shelf, Judge judge) {
-            for (int i = 0; i < length; i++) {
-                if (!shelf.has(ones[i]) || !shelf.has(others[i])) {
-                    return i;
-                }
-                if (judge.areAlike(shelf, ones[i], others[i]) != saidAlike[i]) {
-                    return i;
-                }
-            }
-            return NONE;
+        int one(int i) {
+            return i >= 0 && i < length ? ones[i] : NONE;
+        }
+
+        int other(int i) {
+            return i >= 0 && i < length ? others[i] : NONE;
+        }
+
+        boolean saidAlike(int i) {
+            return i >= 0 && i < length && saidAlike[i];
         }
     }
 }

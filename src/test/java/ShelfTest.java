@@ -1,3 +1,5 @@
+import java.util.Arrays;
+
 /** Promises 1 to 9: the shelf. */
 public final class ShelfTest {
     private static final Due T = new Due();
@@ -17,6 +19,7 @@ public final class ShelfTest {
         squareOfShift();
         squareOfStretch();
         squareWheelTurned();
+        squareSeenElsewhere();
         squareRefusals();
         run();
         T.end();
@@ -271,6 +274,36 @@ public final class ShelfTest {
         T.due("9 run 1", x.run(0, 1), 2);
         T.due("9 run 2", x.run(0, 2), 3);
         T.due("9 run 3", x.run(0, 3), 1);
+    }
+
+    private static void wheels(String name, MatrixKin x, int s, int... want) {
+        T.due("8 RUNS of " + name, x.square(s, 5), want.length);
+        for (int k = 0; k < want.length; k++) {
+            T.due("9 run " + k + " of " + name, x.run(s, k), want[k]);
+        }
+        T.due("9 behind the last of " + name, x.run(s, want.length), MatrixKin.NONE);
+    }
+
+    private static void squareSeenElsewhere() {
+        MatrixKin x = new MatrixKin();
+        x.put(31, -43, -18, 25);
+        wheels("one with b, c below 0", x, 0, 1, 1, 2, 2, 1, 2);
+        // RRL carried over by R 996 times, then by S; the second row is the same CHANGED.
+        x.put(999, -994006, 1, -995);
+        wheels("one far along", x, 1, 2, 1);
+        x.put(-999, 994006, -1, 995);
+        wheels("it changed", x, 2, 2, 1);
+        x.put(-995, -1, 994006, 999);
+        wheels("it carried on", x, 3, 2, 1);
+        x.put(-987, -978118, 1, 991);
+        wheels("one far the other way", x, 4, 2, 1);
+        T.due("8 their family", x.square(1, 8), 0b11010);
+        Due.write(x, "RL");
+        x.raise(5, 14);
+        int[] ones = new int[28];
+        Arrays.fill(ones, 1);
+        wheels("the longest", x, 5, ones);
+        T.due("8 TIMES of the longest", x.square(5, 6), 14);
     }
 
     private static void squareRefusals() {
