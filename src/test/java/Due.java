@@ -4,13 +4,20 @@ final class Due {
 
     private int asked = 0;
     private int wrong = 0;
+    private String sentence = "";
+
+    /** The sentence of the document that the answers from now on are due by; told with each that is not. */
+    void sentence(String words) {
+        sentence = words;
+    }
 
     void due(String call, long got, long want) {
         asked++;
         if (got != want) {
             wrong++;
             if (wrong <= SHOWN_AT_MOST) {
-                System.out.println(call + " answered " + got + ", due is " + want);
+                String told = sentence.isEmpty() ? "" : " [" + sentence + "]";
+                System.out.println(call + " answered " + got + ", due is " + want + told);
             }
         }
     }
