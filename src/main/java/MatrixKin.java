@@ -31,7 +31,7 @@ public final class MatrixKin {
     private final Past past = new Past();
     private final Text text = new Text();
     private final Book book = new Book();
-    private final Judge judge = new Judge(shelf);
+    private final Judge judge = new Judge();
     private final Image[] images = new Image[IMAGE_COUNT];
     private final Square first = new Square();
     private final Square second = new Square();
@@ -94,18 +94,18 @@ public final class MatrixKin {
             case 1:
                 return text.length();
             case 2:
-                judge.lookAround();
+                judge.lookAround(shelf);
                 return judge.countFamilies();
             case 3:
-                judge.lookAround();
+                judge.lookAround(shelf);
                 return judge.greatestFamily();
             case 4:
-                judge.lookAround();
+                judge.lookAround(shelf);
                 return judge.countTwins();
             case 5:
                 return book.length();
             case 6:
-                judge.lookAround();
+                judge.lookAround(shelf);
                 return firstWrong();
             case 7:
                 return past.length();
@@ -140,7 +140,7 @@ public final class MatrixKin {
         if (!shelf.has(s)) {
             return UNKNOWN;
         }
-        judge.lookAround();
+        judge.lookAround(shelf);
         Kin kin = judge.kinOf(s);
         switch (what) {
             case 0:
@@ -174,7 +174,7 @@ public final class MatrixKin {
         if (!shelf.has(s)) {
             return UNKNOWN;
         }
-        judge.lookAround();
+        judge.lookAround(shelf);
         return judge.kinOf(s).wheel().runAt(k);
     }
 
@@ -300,7 +300,7 @@ public final class MatrixKin {
         if (!shelf.has(s) || !shelf.has(u)) {
             return UNKNOWN;
         }
-        judge.lookAround();
+        judge.lookAround(shelf);
         switch (what) {
             case 0:
                 return judge.areAlike(s, u) ? 1 : 0;
@@ -783,29 +783,28 @@ public final class MatrixKin {
         }
     }
 
-    /** Answers what is asked of the squares of the shelf, once it has looked around. */
+    /** Answers what is asked of the squares of a shelf, as it saw them when it looked around. */
     private static final class Judge {
-        private final Shelf shelf;
         private final Kin[] kins = new Kin[SHELF_ROOM];
         private final Kin strangeKin = new Kin();
-        private final Square one = new Square();
-        private final Square other = new Square();
+        private final Square strange = new Square();
         private final Square oneByOther = new Square();
         private final Square otherByOne = new Square();
         private final Word word = new Word();
+        private int size = 0;
 
-        Judge(Shelf itsShelf) {
-            shelf = itsShelf;
+        Judge() {
             for (int s = 0; s < SHELF_ROOM; s++) {
                 kins[s] = new Kin();
             }
         }
 
         /** Brings the kin of all squares up to what the shelf holds now. */
-        void lookAround() {
-            for (int s = 0; s < shelf.size(); s++) {
-                shelf.load(s, one);
-                kins[s].lookAt(one);
+        void lookAround(Shelf shelf) {
+            size = shelf.size();
+            for (int s = 0; s < size; s++) {
+                shelf.load(s, strange);
+                kins[s].lookAt(strange);
             }
         }
 
@@ -818,22 +817,22 @@ public final class MatrixKin {
         }
 
         boolean isTwin(int s) {
-            shelf.load(s, other);
-            other.turnBack();
-            strangeKin.lookAt(other);
+            strange.copyFrom(kins[s].seen);
+            strange.turnBack();
+            strangeKin.lookAt(strange);
             return kins[s].isLike(strangeKin);
         }
 
         boolean isLikeMirrored(int s) {
-            shelf.load(s, other);
-            other.mirror();
-            strangeKin.lookAt(other);
+            strange.copyFrom(kins[s].seen);
+            strange.mirror();
+            strangeKin.lookAt(strange);
             return kins[s].isLike(strangeKin);
         }
 
         int countTwins() {
             int twins = 0;
-            for (int s = 0; s < shelf.size(); s++) {
+            for (int s = 0; s < size; s++) {
                 if (isTwin(s)) {
                     twins++;
                 }
@@ -843,7 +842,7 @@ public final class MatrixKin {
 
         int familyOf(int s) {
             int family = 0;
-            for (int u = 0; u < shelf.size(); u++) {
+            for (int u = 0; u < size; u++) {
                 if (areAlike(s, u)) {
                     family |= 1 << u;
                 }
@@ -853,7 +852,7 @@ public final class MatrixKin {
 
         int countFamilies() {
             int families = 0;
-            for (int s = 0; s < shelf.size(); s++) {
+            for (int s = 0; s < size; s++) {
                 // Each family is counted at its least square.
                 if (Integer.numberOfTrailingZeros(familyOf(s)) == s) {
                     families++;
@@ -864,7 +863,7 @@ public final class MatrixKin {
 
         int greatestFamily() {
             int greatest = 0;
-            for (int s = 0; s < shelf.size(); s++) {
+            for (int s = 0; s < size; s++) {
                 int family = familyOf(s);
                 if (Integer.bitCount(family) > Integer.bitCount(greatest)) {
                     greatest = family;
@@ -874,16 +873,14 @@ public final class MatrixKin {
         }
 
         boolean goTogether(int s, int u) {
-            shelf.load(s, one);
-            shelf.load(u, other);
-            oneByOther.setProduct(one, other);
-            otherByOne.setProduct(other, one);
+            oneByOther.setProduct(kins[s].seen, kins[u].seen);
+            otherByOne.setProduct(kins[u].seen, kins[s].seen);
             return oneByOther.isSameAs(otherByOne);
         }
 
         int begins(int s, int u) {
-            shelf.load(s, one);
-            shelf.load(u, other);
+            Square one = kins[s].seen;
+            Square other = kins[u].seen;
             boolean areStretches = kins[s].kind() == KIND_STRETCH && kins[u].kind() == KIND_STRETCH;
             if (!areStretches || !one.hasNoneBelowZero() || !other.hasNoneBelowZero()) {
                 return NONE;

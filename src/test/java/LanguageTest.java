@@ -109,6 +109,9 @@ public final class LanguageTest {
             String line = made.group(2);
             T.holds("rule 12: made in a call: " + line, line.contains("private final") || line.matches("\\w+\\[[is]\\] = "));
         }
+        // A constructor that is given nothing can be handed nothing of the object that makes it.
+        Matcher given = Pattern.compile("\\bnew \\w+\\((?!\\))[^\n]*").matcher(code);
+        T.holds("rule 12: handed out by a constructor", !given.find());
     }
 
     private static void methods(String[] lines) {
